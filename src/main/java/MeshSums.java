@@ -159,7 +159,10 @@ public final class MeshSums {
     }
 
     public int mapped(int i) {
-        // Without a table no row is as told; the document has NO for that, so it is asked first.
+        // No table has a row below 0; how many rows there are only a table tells, so NO stands between.
+        if (i < 0) {
+            return BAD;
+        }
         if (!sheet.exists()) {
             return NO;
         }

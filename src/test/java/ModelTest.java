@@ -136,7 +136,7 @@ public final class ModelTest {
             case "product": case "due":
                 return new int[] {upTo(random, 0, m.m - 1), 0, 0};
             case "mapped":
-                return new int[] {m.n == 0 ? random.nextInt(9) : upTo(random, 0, m.n - 1), 0, 0};
+                return new int[] {m.n == 0 ? random.nextInt(10) - 2 : upTo(random, 0, m.n - 1), 0, 0};
             case "fade":
                 return new int[] {upTo(random, 1, random.nextInt(4) == 0 ? 100 : 5), 0, 0};
             case "find":
@@ -251,7 +251,9 @@ public final class ModelTest {
                 case "due": return n == 0 || a[0] < 0 || a[0] >= m ? BAD_PRODUCT : dueOf(a[0]);
                 case "enough": return n == 0 ? NO : Integer.toBinaryString(n * t).length();
                 case "map": return n == 0 ? NO : mapAnew();
-                case "mapped": return n == 0 ? NO : a[0] < 0 || a[0] >= n ? BAD : map[a[0]];
+                case "mapped":
+                    if (a[0] < 0 || n > 0 && a[0] >= n) return BAD;
+                    return n == 0 ? NO : map[a[0]];
                 case "seal":
                     sealed = new int[r][];
                     for (int i = 0; i < r; i++) sealed[i] = level[i].clone();

@@ -436,6 +436,9 @@ public final class PromiseTest {
         MeshSums x = meshOf(3, 2, 1);
         due(16, "mapped(0) without a table", x.mapped(0), NO);
         due(16, "mapped(3) without a table", x.mapped(3), NO);
+        due(16, "mapped(7) without a table", x.mapped(7), NO);
+        due(16, "mapped(-1) without a table", x.mapped(-1), BAD);
+        due(16, "mapped(LEAST) without a table", x.mapped(LEAST), BAD);
         x.table(2, 1, 1);
         due(16, "mapped(0)", x.mapped(0), 0);
         due(16, "mapped(1)", x.mapped(1), 1);
@@ -446,6 +449,9 @@ public final class PromiseTest {
         x.map();
         due(16, "mapped(0) anew", x.mapped(0), 1);
         due(16, "mapped(1) anew", x.mapped(1), 2);
+        x.mesh(3, 2, 1);
+        due(16, "mapped(0) behind mesh()", x.mapped(0), NO);
+        due(16, "mapped(-1) behind mesh()", x.mapped(-1), BAD);
     }
 
     private static void seal() {
