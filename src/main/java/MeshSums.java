@@ -789,7 +789,7 @@ public final class MeshSums {
         private void keep(int turn, int cell) {
             foundCell = cell;
             foundActs = 0;
-            for (int at = turn; at > 0; at = cameFrom[at]) {
+            for (int at = turn; at > 0 && foundActs < MOST_STATES; at = cameFrom[at]) {
                 foundActs++;
             }
             if (foundActs > found.length) {

@@ -12,8 +12,9 @@ import java.util.Set;
  * all orders of rows one by one, rows of acts as lists, digits and checks from scratch.
  */
 public final class ModelTest {
-    private static final int RUNS = 400;
+    private static final int RUNS = 800;
     private static final int CALLS = 512;
+    private static final int DIGEST_EACH = 4;
     private static final String[] CALL_NAMES = {
         "mesh", "write", "stick", "cell", "input", "bits", "sum", "table", "number", "lay", "product", "due",
         "enough", "map", "mapped", "seal", "look", "fade", "pulse", "find", "actAt", "where", "met", "count", "digest"};
@@ -48,14 +49,16 @@ public final class ModelTest {
         MeshSums x = new MeshSums();
         Model model = new Model();
         boolean wild = run % 8 == 7;
+        // What an object answers behind its 512th call is free, so calls of digest() count, too.
         for (int call = 0; call < CALLS; call++) {
-            int which = call == 0 ? 0 : pick(random);
+            boolean digests = call % DIGEST_EACH == DIGEST_EACH - 1;
+            int which = call == 0 ? 0 : digests ? CALL_NAMES.length - 1 : pick(random);
             int[] a = arguments(which, model, random, wild && call > 0);
             long got = ask(x, which, a);
             long want = model.ask(which, a);
-            if (got != want || x.digest() != model.digest()) {
+            if (got != want) {
                 System.out.println("run " + run + ", call " + call + ": " + CALL_NAMES[which] + Arrays.toString(a)
-                        + " answered " + got + ", due is " + want + "; digest " + x.digest() + ", due is " + model.digest());
+                        + " answered " + got + ", due is " + want);
                 return true;
             }
             ordinary[which] += got > Model.NO || got < Model.SPENT && got > Model.BAD_NUMBER ? 1 : 0;
@@ -65,10 +68,10 @@ public final class ModelTest {
 
     private static int allSearches() {
         int wrong = 0;
-        MeshSums x = new MeshSums();
         for (int k = 1; k <= 3; k++) {
             for (int s = k; s <= 5; s++) {
                 for (int table = 0; table < 1 << (1 << k); table++) {
+                    MeshSums x = new MeshSums();
                     Model.Answer want = lookedFor(k, s, table);
                     boolean same = x.find(k, s, table) == want.answer && x.met() == want.met;
                     for (int i = 0; same && want.answer >= 0 && i < want.answer; i++) {
