@@ -1107,6 +1107,21 @@ public final class EdgeTest {
             due("map()", x.map(), 0);
             due("mapped(0)", x.mapped(0), 1);
         });
+        test("15: nothing is left of a larger MESH that was MAPPED before", () -> {
+            for (int r = 1; r < 8; r++) {
+                MeshSums x = tableOf(8, 2, 15, 8, 1, 1);
+                for (int row = 0; row < 8; row++) {
+                    x.stick(row, 0, 15);
+                }
+                due("map()", x.map(), 8 * 15);
+                due("mesh(" + r + ", 2, 15)", x.mesh(r, 2, 15), 1);
+                due("table(" + r + ", 1, 1)", x.table(r, 1, 1), 1);
+                due("map()", x.map(), 0);
+                x.stick(0, 1, 2);
+                due("map() where one STICKS", x.map(), 2);
+                due("mapped(r - 1)", x.mapped(r - 1), r - 1);
+            }
+        });
         test("15: what is LAID stays", () -> {
             MeshSums x = tableOf(2, 2, 3, 1, 1, 1);
             x.number(0, 0, 2);
@@ -1576,7 +1591,47 @@ public final class EdgeTest {
         });
     }
 
+    private static int leastCellWith(int[] tables, int table) {
+        for (int cell = 0; cell < tables.length; cell++) {
+            if (tables[cell] == table) {
+                return cell;
+            }
+        }
+        return NONE;
+    }
+
+    /** The TABLE is there behind the last ACT alone, in the CELL that where() tells, and in none below it. */
+    private static void goThroughActs(int k, int s, int table) {
+        String call = " of find(" + k + ", " + s + ", " + table + ")";
+        MeshSums x = new MeshSums();
+        int acts = x.find(k, s, table);
+        int[] tables = Arrays.copyOf(new int[][] {{2}, {10, 12}, {170, 204, 240}}[k - 1], s);
+        int ones = (1 << (1 << k)) - 1;
+        for (int i = 0; i < acts; i++) {
+            int a = x.actAt(i, 0);
+            int b = x.actAt(i, 1);
+            int c = x.actAt(i, 2);
+            boolean asTold = a >= 0 && b >= a && b < s && c >= k && c < s && c != a && c != b;
+            due("1 if ACT " + i + call + " is as told", asTold ? 1 : 0, 1);
+            due("CELL with the TABLE ahead of ACT " + i + call, leastCellWith(tables, table), NONE);
+            if (asTold) {
+                tables[c] = ones & ~(tables[a] | tables[b]);
+            }
+        }
+        due("actAt behind the last" + call, x.actAt(Math.max(acts, 0), 0), NONE);
+        due("where()" + call, x.where(), acts < 0 ? NONE : leastCellWith(tables, table));
+    }
+
     private static void found() {
+        test("22, Terms: CELL c becomes not (a or b); b not below a; c another one than both, no input's", () -> {
+            for (int k = 1; k <= 3; k++) {
+                for (int s = k; s <= 5; s++) {
+                    for (int table = 0; table < 1 << (1 << k); table++) {
+                        goThroughActs(k, s, table);
+                    }
+                }
+            }
+        });
         test("22: NONE, not so many", () -> {
             MeshSums x = full();
             for (int i : new int[] {3, 4, MOST}) {
