@@ -266,6 +266,23 @@ public final class MeshSums {
         return act >> (6 - 3 * what) & 7;
     }
 
+    /** A state met, the turn of the state that it was met from, and the act between them. */
+    private static long packVisit(int state, int from, int act) {
+        return (long) from << 32 | act << 16 | state;
+    }
+
+    private static int stateOf(long visit) {
+        return (int) visit & 0xFFFF;
+    }
+
+    private static int cameBy(long visit) {
+        return (int) visit >> 16;
+    }
+
+    private static int cameFrom(long visit) {
+        return (int) (visit >> 32);
+    }
+
     /** The cells of the mesh, its inputs and its converters. */
     private static final class Grid {
         private int rows;
@@ -671,9 +688,8 @@ public final class MeshSums {
 
     /** The search for the shortest row of acts, state by state, and what it found last. */
     private static final class Search {
-        private final int[] states = new int[MOST_STATES];
-        private final int[] cameFrom = new int[MOST_STATES];
-        private final int[] cameBy = new int[MOST_STATES];
+        // One row in place of three, so that an object for each call of a run still has room.
+        private final long[] visits = new long[MOST_STATES];
         private final int[] seen = new int[SEEN_WORDS];
         private final int[] tables = new int[MOST_LOGIC_CELLS];
         private int inputs;
@@ -691,7 +707,7 @@ public final class MeshSums {
         private int seek(int k, int s, int table) {
             begin(k, s);
             for (int turn = 0; turn < MOST_STATES && turn < metStates; turn++) {
-                openState(states[turn]);
+                openState(stateOf(visits[turn]));
                 int cell = cellWith(table);
                 if (cell != NONE) {
                     keep(turn, cell);
@@ -759,7 +775,7 @@ public final class MeshSums {
             int neither = ~(tables[a] | tables[b]) & fullMask;
             for (int c = inputs; c < cells; c++) {
                 if (c != a && c != b) {
-                    int others = states[turn] & ~(fullMask << shiftOf(c));
+                    int others = stateOf(visits[turn]) & ~(fullMask << shiftOf(c));
                     if (!meet(others | neither << shiftOf(c), turn, packAct(a, b, c))) {
                         return false;
                     }
@@ -779,9 +795,7 @@ public final class MeshSums {
                 return false;
             }
             seen[word] |= mark;
-            states[metStates] = state;
-            cameFrom[metStates] = from;
-            cameBy[metStates] = act;
+            visits[metStates] = packVisit(state, from, act);
             metStates++;
             return true;
         }
@@ -789,15 +803,15 @@ public final class MeshSums {
         private void keep(int turn, int cell) {
             foundCell = cell;
             foundActs = 0;
-            for (int at = turn; at > 0 && foundActs < MOST_STATES; at = cameFrom[at]) {
+            for (int at = turn; at > 0 && foundActs < MOST_STATES; at = cameFrom(visits[at])) {
                 foundActs++;
             }
             if (foundActs > found.length) {
                 found = new int[foundActs];
             }
             int next = foundActs - 1;
-            for (int at = turn; at > 0 && next >= 0; at = cameFrom[at]) {
-                found[next] = cameBy[at];
+            for (int at = turn; at > 0 && next >= 0; at = cameFrom(visits[at])) {
+                found[next] = cameBy(visits[at]);
                 next--;
             }
         }

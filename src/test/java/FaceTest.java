@@ -1,4 +1,5 @@
 import java.io.IOException;
+import java.lang.reflect.Array;
 import java.lang.reflect.Constructor;
 import java.lang.reflect.Field;
 import java.lang.reflect.Method;
@@ -6,6 +7,8 @@ import java.lang.reflect.Modifier;
 import java.nio.file.Files;
 import java.nio.file.Path;
 import java.util.Arrays;
+import java.util.Collections;
+import java.util.IdentityHashMap;
 import java.util.Set;
 import java.util.TreeSet;
 import java.util.regex.Matcher;
@@ -24,6 +27,10 @@ public final class FaceTest {
         "\\bthrow\\b", "\\bthrows\\b", "\\btry\\b", "\\bcatch\\b", "\\bsynchronized\\b", "\\bassert\\b", "->", "::",
         "\\w+Exact\\b", "\\bSystem\\.(?!arraycopy)", "\\bThread\\b", "\\bRandom\\b", "\\bpackage\\b", "\\bstatic \\{", "\" \\+", "\\+ \""};
     private static final Path SOURCE = Path.of("src/main/java/MeshSums.java");
+
+    private static final int CALLS = 512;
+    private static final int MOST_OBJECTS = 600_000;
+    private static final int MOST_FIELDS = 7_300_000;
 
     private static int wrong = 0;
 
@@ -98,11 +105,43 @@ public final class FaceTest {
         }
     }
 
+    /** All that an object holds, as {objects and arrays, fields and elements}. */
+    private static void weigh(Object held, Set<Object> met, int[] weight) throws IllegalAccessException {
+        if (held == null || !met.add(held)) {
+            return;
+        }
+        weight[0]++;
+        if (held.getClass().isArray()) {
+            check(held.getClass().getComponentType().isPrimitive(), "an array of objects is not weighed");
+            weight[1] += Array.getLength(held);
+            return;
+        }
+        for (Field field : held.getClass().getDeclaredFields()) {
+            if (!Modifier.isStatic(field.getModifiers())) {
+                weight[1]++;
+                field.setAccessible(true);
+                if (!field.getType().isPrimitive()) {
+                    weigh(field.get(held), met, weight);
+                }
+            }
+        }
+    }
+
+    /** Even a run that makes a new object by each of its calls stays in the room. */
+    private static void room() throws IllegalAccessException {
+        int[] weight = new int[2];
+        weigh(new MeshSums(), Collections.newSetFromMap(new IdentityHashMap<>()), weight);
+        check(weight[0] > 10 && weight[1] > 100, "an object weighs nothing: " + Arrays.toString(weight));
+        check(weight[0] * CALLS <= MOST_OBJECTS, "an object holds " + weight[0] + " objects and arrays");
+        check(weight[1] * CALLS <= MOST_FIELDS, "an object holds " + weight[1] + " fields and elements");
+    }
+
     public static void main(String[] args) throws Exception {
         methods();
         fields();
         makers();
         source();
+        room();
         System.out.println(wrong == 0 ? "the face is as told" : wrong + " things are not as told");
         if (wrong != 0) {
             System.exit(1);
